@@ -362,16 +362,16 @@ public final class ScriptTypes {
 
         void addNumber(int n) {
             long rest = n < 0 ? -(long) n : n;
-            if (n < 0) {
-                add('-');
-            }
             long power = 1;
             for (int i = 0; i < 10 && rest >= power * 10; i++) {
                 power *= 10;
             }
-            for (int i = 0; i < 11 && power > 0; i++) {
-                add((char) ('0' + (int) (rest / power % 10)));
-                power /= 10;
+            for (int i = n < 0 ? -1 : 0; i < 11 && power > 0 && madeLength < LONGEST; i++) {
+                char sign = i < 0 ? '-' : (char) ('0' + (int) (rest / power % 10));
+                made[madeLength] = sign;
+                madeLength++;
+                madeHash = madeHash * 31 + sign;
+                power = i < 0 ? power : power / 10;
             }
         }
 
@@ -401,7 +401,12 @@ public final class ScriptTypes {
             }
             clear();
             addNumber(datum);
-            return make();
+            int s = find();
+            s = s < 0 ? keep() : s;
+            if (s < 0) {
+                throw new UnsupportedOperationException("no room");
+            }
+            return s;
         }
 
         // The number of the string that is being made, or -1.
@@ -920,7 +925,11 @@ public final class ScriptTypes {
             for (int i = 0; i <= list.length(); i++) {
                 if (i == list.length() || list.charAt(i) == ' ') {
                     int size = i - start;
-                    if ((wanted == 0 ? size > matched : size == wanted) && standsHere(list, start, size)) {
+                    boolean here = wanted == 0 ? size > matched && from + size <= length : size == wanted;
+                    for (int j = 0; here && j < size; j++) {
+                        here = tape[from + j] == list.charAt(start + j);
+                    }
+                    if (here) {
                         found = index;
                         matched = size;
                     }
@@ -929,15 +938,6 @@ public final class ScriptTypes {
                 }
             }
             return found;
-        }
-
-        private boolean standsHere(String list, int start, int size) {
-            for (int i = 0; i < size; i++) {
-                if (byteAt(from + i) != list.charAt(start + i)) {
-                    return false;
-                }
-            }
-            return true;
         }
     }
 
@@ -3910,7 +3910,7 @@ public final class ScriptTypes {
         private final Shape shape;
         final long[] head = new long[HEAD];
         final long[] rows = new long[LABEL_LIMIT * (Shape.FIELDS + 3 * (NAME_LIMIT + 1))];
-        private long[] stack = new long[3 * 64];
+        long[] stack = new long[3 * 64];
         int height;
 
         Work(Shape shape) {
@@ -3985,13 +3985,9 @@ public final class ScriptTypes {
             head[SCOPE_AT + (l >>> 6)] = 1L << (l & 63);
         }
 
-        boolean joinSet(long[] cells, int at, int i) {
-            return i < height && joinTriple(cells, at, stack, 3 * i);
-        }
-
         // ---- rows
 
-        int field(int l, int n) {
+        int cellOf(int l, int n) {
             return l * shape.row + Shape.FIELDS + 3 * n;
         }
 
@@ -4096,14 +4092,14 @@ public final class ScriptTypes {
         }
 
         void setField(int l, int n, Bag set) {
-            int at = field(l, n);
+            int at = cellOf(l, n);
             rows[at] = set.bits;
             rows[at + 1] = set.lo;
             rows[at + 2] = set.hi;
         }
 
         void setLabel(int l, int n, int label) {
-            int at = field(l, n);
+            int at = cellOf(l, n);
             rows[at] = 0;
             rows[at + 1] = 0;
             rows[at + 2] = 0;
@@ -4111,7 +4107,7 @@ public final class ScriptTypes {
         }
 
         void setFlags(int l, int n, long bits) {
-            int at = field(l, n);
+            int at = cellOf(l, n);
             rows[at] = bits;
             rows[at + 1] = 0;
             rows[at + 2] = 0;
@@ -4152,7 +4148,10 @@ public final class ScriptTypes {
             out.clear();
             for (int l = 0; l < shape.labels; l++) {
                 if (labels.has(l) && isThere(l)) {
-                    out.join(rows, field(l, n));
+                    int at = cellOf(l, n);
+                    out.bits = Bag.joinBits(out.bits, rows[at]);
+                    out.lo |= rows[at + 1];
+                    out.hi |= rows[at + 2];
                 }
             }
         }
@@ -4185,7 +4184,9 @@ public final class ScriptTypes {
                 if (l < shape.labels && isThere(l)) {
                     int at = l * shape.row;
                     int in = at + Shape.FIELDS + 3 * n;
-                    out.join(rows, in);
+                    out.bits = Bag.joinBits(out.bits, rows[in]);
+                    out.lo |= rows[in + 1];
+                    out.hi |= rows[in + 2];
                     if ((rows[in] & Bag.ABSENT) != 0) {
                         lo |= rows[at + PROTO];
                         hi |= rows[at + PROTO + 1];
@@ -4217,7 +4218,7 @@ public final class ScriptTypes {
         }
 
         private void joinField(int l, int n, Bag set) {
-            int at = field(l, n);
+            int at = cellOf(l, n);
             rows[at] = Bag.joinBits(rows[at], set.bits);
             rows[at + 1] |= set.lo;
             rows[at + 2] |= set.hi;
@@ -4227,7 +4228,7 @@ public final class ScriptTypes {
         void loosenLengths(Bag labels) {
             for (int l = 0; l < shape.labels; l++) {
                 if (labels.has(l) && shape.arrays.has(l) && isThere(l)) {
-                    int at = field(l, LENGTH);
+                    int at = cellOf(l, LENGTH);
                     rows[at] = Bag.joinBits(rows[at], Bag.ALL_NUMBERS);
                 }
             }
@@ -4399,9 +4400,11 @@ public final class ScriptTypes {
         void work() {
             shape.fit(code, texts);
             layOut();
-            Arrays.fill(called, 0);
-            Arrays.fill(warned, 0);
-            Arrays.fill(queued, false);
+            for (int k = 0; k < CODE_LIMIT; k++) {
+                called[k] = 0;
+                warned[k] = 0;
+                queued[k] = false;
+            }
             waiting = 0;
             startState();
             for (int pass = 0; pass < PASSES && waiting > 0; pass++) {
@@ -4452,9 +4455,9 @@ public final class ScriptTypes {
                     grown |= Work.joinRow(cells, rowOf(state, l), rows, row, shape.row);
                 }
             }
-            int high = heightOf(state);
+            int high = Math.min(heightOf(state), from.height);
             for (int i = 0; i < high; i++) {
-                grown |= from.joinSet(cells, stackOf(state) + 3 * i, i);
+                grown |= Work.joinTriple(cells, stackOf(state) + 3 * i, from.stack, 3 * i);
             }
             if (grown) {
                 enqueue(state);
@@ -4480,20 +4483,35 @@ public final class ScriptTypes {
             int a = code.a[k];
             int b = code.b[k];
             int op = code.op[k];
-            if (op <= THIS) {
-                fetch(op, a, b);
-            } else if (op <= FUNCTION) {
-                makeThing(op, a);
-            } else if (op <= BINARY) {
-                sign(op, a);
-            } else if (op == CALL) {
-                call(a);
-            } else if (op == NEW) {
-                construct(a, b);
-            } else if (op <= UNDER) {
-                shuffle(op);
-            } else {
-                flow(op, a);
+            takeOperands(op);
+            switch (op) {
+                case OBJECT:
+                case ARRAY:
+                case FUNCTION: makeThing(op, a); break;
+                case GET: get(); break;
+                case PUT: put(); break;
+                case DELETE: delete(); break;
+                case UNARY: unary(a); break;
+                case BINARY:
+                    if (a == 19) {
+                        isIn();
+                    } else if (a == 20) {
+                        isInstance();
+                    } else {
+                        binary(a);
+                    }
+                    break;
+                case CALL: call(a); break;
+                case NEW: construct(a, b); break;
+                default:
+                    if (op < OBJECT) {
+                        fetch(op, a, b);
+                    } else if (op <= UNDER) {
+                        shuffle(op);
+                    } else {
+                        flow(op, a);
+                    }
+                    break;
             }
             warned[k] = warning;
         }
@@ -4508,7 +4526,8 @@ public final class ScriptTypes {
             if (!set.isEmpty()) {
                 now.drop(many);
                 now.push(set);
-                goOn(at + 1);
+                warning &= ~NO_WAY;
+                join(at + 1, now, now.rows, 0);
             }
         }
 
@@ -4529,7 +4548,9 @@ public final class ScriptTypes {
             }
             z.become(0);
             z.add(label);
-            hurl(z);
+            way.takeStack(now, handlerHeight());
+            way.push(z);
+            join(handler(), way, now.rows, 0);
             addRow(handler(), label, label - 20, -1, 0);
         }
 
@@ -4546,7 +4567,10 @@ public final class ScriptTypes {
             cells[row] |= Work.THERE;
             cells[row + 1] |= 1L << proto;
             for (int n = 0; n <= shape.names; n++) {
-                grown |= joinFlags(row + Shape.FIELDS + 3 * n, n == name ? flags : Bag.ABSENT);
+                int cell = row + Shape.FIELDS + 3 * n;
+                long bits = Bag.joinBits(cells[cell], n == name ? flags : Bag.ABSENT);
+                grown |= bits ^ cells[cell];
+                cells[cell] = bits;
             }
             if (grown != 0) {
                 enqueue(state);
@@ -4619,7 +4643,8 @@ public final class ScriptTypes {
             keys.add(name);
             now.takeSet(now.height - 1, r);
             now.write(x, keys, r);
-            goOn(at + 1);
+            warning &= ~NO_WAY;
+            join(at + 1, now, now.rows, 0);
         }
 
         // What typeof answers of a set, to the result; perhaps of nothing, too.
@@ -4719,40 +4744,14 @@ public final class ScriptTypes {
 
         // ---- signs
 
-        private void sign(int op, int a) {
-            int high = now.height;
-            switch (op) {
-                case GET:
-                    now.takeSet(high - 2, x);
-                    now.takeSet(high - 1, y);
-                    get();
-                    break;
-                case PUT:
-                    now.takeSet(high - 3, x);
-                    now.takeSet(high - 2, y);
-                    put();
-                    break;
-                case DELETE:
-                    now.takeSet(high - 2, x);
-                    now.takeSet(high - 1, y);
-                    delete();
-                    break;
-                case UNARY:
-                    now.takeSet(high - 1, x);
-                    unary(a);
-                    goOnWith(1, r);
-                    break;
-                default:
-                    now.takeSet(high - 2, x);
-                    now.takeSet(high - 1, y);
-                    if (a == 19) {
-                        isIn();
-                    } else if (a == 20) {
-                        isInstance();
-                    } else {
-                        binary(a);
-                    }
-                    break;
+        // The first two operands come into x and y; of PUT those below the value.
+        private void takeOperands(int op) {
+            int high = op == PUT ? now.height - 1 : now.height;
+            if (op == UNARY) {
+                now.takeSet(high - 1, x);
+            } else if (op >= GET && op <= BINARY) {
+                now.takeSet(high - 2, x);
+                now.takeSet(high - 1, y);
             }
         }
 
@@ -4838,6 +4837,7 @@ public final class ScriptTypes {
             } else {
                 r.bits = a == 2 ? Bag.ALL_NUMBERS : Bag.ALL_NUMBERS | 1L << NAN;
             }
+            goOnWith(1, r);
         }
 
         private void binary(int a) {
@@ -4868,6 +4868,7 @@ public final class ScriptTypes {
             return set.hasValues(Bag.VALUES & ~(Bag.ONE_STRING | Bag.ALL_STRINGS));
         }
 
+        // Whether the keys of x can be read from y.
         private void isIn() {
             keysOf(x);
             if (y.hasValues(Bag.VALUES)) {
@@ -4889,10 +4890,9 @@ public final class ScriptTypes {
             if (others || missed || r.hasValues(Bag.VALUES)) {
                 error(TYPE_ERROR);
             }
-            if (r.hasLabels()) {
-                r.become(x.hasLabels() ? Bag.TRUTHS : 1L << FALSE);
-                goOnWith(2, r);
-            }
+            long truths = x.hasLabels() ? Bag.TRUTHS : 1L << FALSE;
+            r.become(r.hasLabels() ? truths : 0);
+            goOnWith(2, r);
         }
 
         // ---- the stack and places
@@ -4962,7 +4962,8 @@ public final class ScriptTypes {
         private void branch(boolean open, int place, int many) {
             if (open) {
                 now.drop(many);
-                goOn(place);
+                warning &= ~NO_WAY;
+                join(place, now, now.rows, 0);
             }
         }
 
@@ -5164,10 +5165,16 @@ public final class ScriptTypes {
             way.push(r);
             warning &= ~NO_WAY;
             join(at + 1, way, now.rows, 0);
+            int maker = l - MAKE_ERROR;
             if (l == PUSH || l == POP) {
                 changeArrays(l);
-            } else {
-                addMade(l, argument >= 0);
+            } else if (l == MAKE_OBJECT) {
+                addRow(at + 1, OBJECT_LABEL, FIRST_PROTO, -1, 0);
+            } else if (l == MAKE_ARRAY) {
+                addRow(at + 1, ARRAY_LABEL, ARRAY_PROTO, LENGTH, Bag.oneNumber(0));
+            } else if (maker >= 0 && l <= LAST_ERROR) {
+                long message = argument < 0 ? 0 : textOf(z);
+                addRow(at + 1, ERROR_LABEL + maker, ERROR_PROTO + maker, argument < 0 ? -1 : MESSAGE, message);
             }
         }
 
@@ -5186,7 +5193,7 @@ public final class ScriptTypes {
             for (int l = 0; l < shape.labels; l++) {
                 for (int n = 0; y.has(l) && shape.arrays.has(l) && now.isThere(l) && n <= shape.names; n++) {
                     if (shape.popped.has(n)) {
-                        r.join(now.rows, now.field(l, n));
+                        r.join(now.rows, now.cellOf(l, n));
                     }
                 }
             }
@@ -5206,18 +5213,6 @@ public final class ScriptTypes {
                 }
             }
             return flags;
-        }
-
-        // What the makers among the natives ADD behind the call.
-        private void addMade(int l, boolean told) {
-            int maker = l - MAKE_ERROR;
-            if (l == MAKE_OBJECT) {
-                addRow(at + 1, OBJECT_LABEL, FIRST_PROTO, -1, 0);
-            } else if (l == MAKE_ARRAY) {
-                addRow(at + 1, ARRAY_LABEL, ARRAY_PROTO, LENGTH, Bag.oneNumber(0));
-            } else if (maker >= 0 && maker < 4) {
-                addRow(at + 1, ERROR_LABEL + maker, ERROR_PROTO + maker, told ? MESSAGE : -1, told ? textOf(z) : 0);
-            }
         }
 
         // What push and pop change in the arrays of y behind the call.
