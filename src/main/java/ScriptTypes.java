@@ -4257,8 +4257,9 @@ public final class ScriptTypes {
         private static final int PASSES = 1000000;
         private static final int NO_WAY = 4;
         private static final int STATES = CODE_LIMIT + 2 * (FUNCTION_LIMIT + 1);
-        // rows and fields of all labels at all instructions, and their stacks as long as they are low
-        private static final int FIRST_CELLS = 3 * (FIELD_LIMIT + FIELD_LIMIT / FIRST_NAMES) + 5 * FIELD_LIMIT / FIRST_NAMES + 100000;
+        // enough for most scripts, and for all whose stacks are not very high
+        private static final int FIRST_CELLS = 500000;
+        private static final int MOST_CELLS = 3 * (FIELD_LIMIT + FIELD_LIMIT / FIRST_NAMES) + 5 * FIELD_LIMIT / FIRST_NAMES + 100000;
 
         private final Code code;
         private final Texts texts;
@@ -4387,7 +4388,7 @@ public final class ScriptTypes {
                 }
             }
             if (total > cells.length) {
-                cells = new long[total];
+                cells = new long[Math.max(total, MOST_CELLS)];
             } else {
                 Arrays.fill(cells, 0, total, 0);
             }

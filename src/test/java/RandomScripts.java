@@ -58,6 +58,17 @@ final class RandomScripts {
         return text.toString();
     }
 
+    /** The script with names that are there anyway, so that it may be longer. */
+    static String compact(String script) {
+        String[] names = {"a", "object", "b", "boolean", "c", "string", "x", "number", "y", "charAt", "o", "length", "f", "push", "g", "pop",
+            "h", "call", "j", "i", "n", "i", "p", "message", "q", "name", "k", "e", "r", "s", "text", "s"};
+        String text = script;
+        for (int i = 0; i < names.length; i += 2) {
+            text = text.replaceAll("\\b" + names[i] + "\\b", names[i + 1]);
+        }
+        return text;
+    }
+
     // So that most names mean something.
     private void begin() {
         add(pick("a=[1,'s',{p:1}];", "var a=[];", "a='text';", ""));

@@ -4,7 +4,7 @@ public final class ReaderTest {
     }
 
     public static void main(String[] args) {
-        int scripts = args.length > 0 ? Integer.parseInt(args[0]) : 3000;
+        int scripts = args.length > 0 ? Integer.parseInt(args[0]) : 1500;
         int[] faults = new int[6];
         for (int seed = 0; seed < scripts; seed++) {
             RandomScripts random = new RandomScripts(seed);

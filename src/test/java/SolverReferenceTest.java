@@ -11,6 +11,7 @@ public final class SolverReferenceTest {
         ScriptTypes x = new ScriptTypes();
         for (int seed = from; seed < from + scripts; seed++) {
             String text = new RandomScripts(seed).script(5 + seed % 60);
+            text = seed % 3 == 0 ? text : RandomScripts.compact(text);
             RefReader reader = new RefReader(text);
             if (text.length() <= 4000 && Kit.read(x, text) == 0 && reader.fault == 0) {
                 compared++;
