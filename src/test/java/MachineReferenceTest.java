@@ -8,7 +8,8 @@ public final class MachineReferenceTest {
         int[] ends = new int[5];
         ScriptTypes x = new ScriptTypes();
         for (int seed = 0; seed < scripts; seed++) {
-            String text = new RandomScripts(seed).script(5 + seed % 60);
+            RandomScripts random = new RandomScripts(seed);
+            String text = seed % 4 == 1 ? random.ways() : random.script(5 + seed % 60);
             text = seed % 3 == 0 ? text : RandomScripts.compact(text);
             RefReader second = new RefReader(text);
             if (text.length() <= 4000 && Kit.read(x, text) == 0 && second.fault == 0) {

@@ -58,6 +58,94 @@ final class RandomScripts {
         return text.toString();
     }
 
+    /** A script of loops, tries and ways out of them in one another. */
+    String ways() {
+        text.setLength(0);
+        loops = 0;
+        switches = 0;
+        budget = 6 + roll(14);
+        add("i=0;o={p:1,q:2,r:3};function f(a){");
+        way(0);
+        way(0);
+        add("return 'end'}for(var k in [1,2,3])try{print(f(k))}catch(e){print(e)}");
+        return text.toString();
+    }
+
+    private void wayBlock(int deep) {
+        add("{");
+        for (int i = roll(3); i >= 0; i--) {
+            way(deep + 1);
+        }
+        add("}");
+    }
+
+    private void way(int deep) {
+        budget--;
+        switch (budget < 0 || deep > 8 ? roll(5) : 3 + roll(12)) {
+            case 0:
+            case 3: add("i++;"); break;
+            case 1: add("print(i);"); break;
+            case 2: add("if(i%3)throw i;"); break;
+            case 4:
+            case 5:
+                add(pick("", "if(i&1)", "if(i>2)", "if(a==1)"));
+                if (loops > 0) {
+                    add(pick("break;", "continue;", "continue;", "return i;"));
+                } else {
+                    add(switches > 0 ? pick("break;", "return;") : "return i;");
+                }
+                break;
+            case 6:
+            case 7:
+                add("try");
+                wayBlock(deep);
+                add("finally");
+                wayBlock(deep);
+                break;
+            case 8:
+                add("try");
+                wayBlock(deep);
+                add("catch(e)");
+                wayBlock(deep);
+                break;
+            case 9:
+                add("try");
+                wayBlock(deep);
+                add("catch(e)");
+                wayBlock(deep);
+                add("finally");
+                wayBlock(deep);
+                break;
+            case 10:
+            case 11:
+                add(pick("for(var k in o)", "while(i++<9)", "for(;i<7;i++)", "for(k in o)"));
+                loops++;
+                wayBlock(deep);
+                loops--;
+                break;
+            case 12:
+                add("do");
+                loops++;
+                wayBlock(deep);
+                loops--;
+                add("while(i++<5)");
+                break;
+            case 13:
+                add("switch(i){case 1:");
+                switches++;
+                way(deep + 1);
+                add(pick("default:", "case 2:", "case 0:"));
+                way(deep + 1);
+                switches--;
+                add("}");
+                break;
+            default:
+                add("if(i%2)");
+                wayBlock(deep);
+                break;
+        }
+    }
+
     /** The script with names that are there anyway, so that it may be longer. */
     static String compact(String script) {
         String[] names = {"a", "object", "b", "boolean", "c", "string", "x", "number", "y", "charAt", "o", "length", "f", "push", "g", "pop",

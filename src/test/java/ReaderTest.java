@@ -8,7 +8,7 @@ public final class ReaderTest {
         int[] faults = new int[6];
         for (int seed = 0; seed < scripts; seed++) {
             RandomScripts random = new RandomScripts(seed);
-            String script = random.script(4 + seed % 70);
+            String script = seed % 5 < 2 ? random.ways() : random.script(4 + seed % 70);
             for (int i = 0; i < 4; i++) {
                 String text = i == 0 ? script : random.broken(script);
                 if (text.length() <= 4000) {

@@ -10,7 +10,8 @@ public final class SolverReferenceTest {
         int unreached = 0;
         ScriptTypes x = new ScriptTypes();
         for (int seed = from; seed < from + scripts; seed++) {
-            String text = new RandomScripts(seed).script(5 + seed % 60);
+            RandomScripts random = new RandomScripts(seed);
+            String text = seed % 6 == 1 ? random.ways() : random.script(5 + seed % 60);
             text = seed % 3 == 0 ? text : RandomScripts.compact(text);
             RefReader reader = new RefReader(text);
             if (text.length() <= 4000 && Kit.read(x, text) == 0 && reader.fault == 0) {

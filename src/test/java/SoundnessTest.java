@@ -10,7 +10,8 @@ public final class SoundnessTest {
         ScriptTypes x = new ScriptTypes();
         int steps = 0;
         for (int seed = 0; seed < scripts; seed++) {
-            String text = new RandomScripts(seed + 50000).script(5 + seed % 60);
+            RandomScripts random = new RandomScripts(seed + 50000);
+            String text = seed % 4 == 1 ? random.ways() : random.script(5 + seed % 60);
             text = seed % 2 == 0 ? text : RandomScripts.compact(text);
             if (text.length() <= 4000 && Kit.read(x, text) == 0) {
                 steps += follow(x, text);
