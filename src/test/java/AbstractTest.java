@@ -338,6 +338,20 @@ public final class AbstractTest {
 
     // stacks so high that what is made at first does not do
     private static void sizes() {
+        ScriptTypes largest = solved("length;".repeat(248));
+        Kit.check("the largest script", largest.count(0) + " " + largest.count(12) + " " + largest.field(497, 0, 31, 0) + " " + largest.link(497, 22, 5)
+            + " " + Kit.field(largest, 497, 17, "prototype"), "498 1 0 0 ");
+        largest = solved("length=1;" + "length;".repeat(246));
+        Kit.check("the largest script that ends", largest.count(0) + " " + largest.count(12) + " " + largest.field(496, 0, 31, 0) + " "
+            + largest.link(496, 22, 5) + " " + Kit.field(largest, 496, 17, "prototype"), "497 497 512 1 L8");
+        StringBuilder names = new StringBuilder("z='x';");
+        for (int i = 0; i < 57; i++) {
+            names.append("'n").append(i).append("';");
+        }
+        ScriptTypes many = solved(names + "for(z in 1);");
+        int last = many.count(0) - 1;
+        Kit.check("90 names", many.count(2) + " " + Kit.field(many, last, 0, 31) + "/" + Kit.field(many, last, 0, 89) + "/" + Kit.field(many, last, 0, 90)
+            + "/" + Kit.field(many, last, 0, 91), "90 STR/absent/absent/");
         StringBuilder s = new StringBuilder("z=");
         for (int i = 0; i < 18; i++) {
             s.append("a(1,2,3,4,5,6,7,1|2^3&4==5<6<<7+8*");
