@@ -20,6 +20,11 @@ public final class ScriptTypes {
     private static final int FIRST_NAMES = 31;
     private static final int FIRST_LABELS = 29;
     private static final int STEP_LIMIT = 2000;
+    // Each instruction, and two of each function, counts against FIELD_LIMIT with all labels and names, which are
+    // at least the first ones: so no script has more of them, and none a stack that is higher than this, as each
+    // value on it comes from an instruction of its own (but the copies of COPY TWO, one of which goes at once).
+    private static final int STATE_LIMIT = FIELD_LIMIT / (FIRST_LABELS * FIRST_NAMES);
+    private static final int HEIGHT_LIMIT = STATE_LIMIT + 1;
 
     // the operations of instructions
     private static final int CONSTANT = 0;
@@ -954,7 +959,6 @@ public final class ScriptTypes {
         final int[] height = new int[CODE_LIMIT];
         final int[] tryAt = new int[CODE_LIMIT];
         int count;
-        int highest;
         int sites;
         int names;
         int functions;
@@ -1074,7 +1078,6 @@ public final class ScriptTypes {
         // Follows all ways on to find the stack's height and the open TRY at each instruction.
         void findHeights() {
             Arrays.fill(height, -1);
-            highest = 0;
             for (int f = 0; f < functions; f++) {
                 arrive(first[f], 0, -1);
             }
@@ -1093,7 +1096,6 @@ public final class ScriptTypes {
             if (k >= 0 && k < count && height[k] < 0 && high >= 0) {
                 height[k] = high;
                 tryAt[k] = open;
-                highest = Math.max(highest, high);
                 grown = true;
             }
         }
@@ -2840,7 +2842,6 @@ public final class ScriptTypes {
         private static final int ARRAY_LIMIT = 100;
         // two of a try in another, at most 20 deep
         private static final int TRIES_LIMIT = 40 * FRAMES;
-        private static final int FIRST_STACK = 1536;
         // the ints of a frame; MADE is the object that NEW made, or -1
         private static final int SIZE = 8;
         private static final int BODY = 0;
@@ -2868,7 +2869,7 @@ public final class ScriptTypes {
         private int frameCount;
         // the latest frame, as an index into frames
         private int now;
-        private int[] stack = new int[WIDTH * FIRST_STACK];
+        private final int[] stack = new int[WIDTH * FRAMES * HEIGHT_LIMIT];
         private int top;
         // of each open TRY its a, and how many values its frame's stack had
         private final int[] tries = new int[2 * TRIES_LIMIT];
@@ -2897,16 +2898,7 @@ public final class ScriptTypes {
             tryCount = 0;
             lineCount = 0;
             frameCount = 0;
-            makeRoom();
             openFrame(0, NONE, UNDEFINED, 0, NONE);
-        }
-
-        // Room for all frames' stacks, as high as the code lets them grow.
-        private void makeRoom() {
-            int values = WIDTH * FRAMES * (code.highest + 2);
-            if (stack.length < values) {
-                stack = new int[values];
-            }
         }
 
         boolean goesOn() {
@@ -3910,17 +3902,11 @@ public final class ScriptTypes {
         private final Shape shape;
         final long[] head = new long[HEAD];
         final long[] rows = new long[LABEL_LIMIT * (Shape.FIELDS + 3 * (NAME_LIMIT + 1))];
-        long[] stack = new long[3 * 64];
+        final long[] stack = new long[3 * HEIGHT_LIMIT];
         int height;
 
         Work(Shape shape) {
             this.shape = shape;
-        }
-
-        void makeRoom(int highest) {
-            if (stack.length < 3 * (highest + 2)) {
-                stack = new long[3 * (highest + 2)];
-            }
         }
 
         void clear() {
@@ -4257,16 +4243,17 @@ public final class ScriptTypes {
         private static final int PASSES = 1000000;
         private static final int NO_WAY = 4;
         private static final int STATES = CODE_LIMIT + 2 * (FUNCTION_LIMIT + 1);
-        // enough for most scripts, and for all whose stacks are not very high
-        private static final int FIRST_CELLS = 500000;
-        private static final int MOST_CELLS = 3 * (FIELD_LIMIT + FIELD_LIMIT / FIRST_NAMES) + 5 * FIELD_LIMIT / FIRST_NAMES + 100000;
+        // The longs of all states of any script: of each its head; of each label its row, with OTHER's field; of each
+        // name's field three; and the stacks, none of which has more values than instructions came ahead, and one.
+        private static final int MOST_CELLS = HEAD * STATE_LIMIT + (Shape.FIELDS + 3) * (FIELD_LIMIT / FIRST_NAMES)
+            + 3 * FIELD_LIMIT + 3 * (STATE_LIMIT * (STATE_LIMIT + 1) / 2);
 
         private final Code code;
         private final Texts texts;
         private final Shape shape = new Shape();
         // a state: head, rows, stack; behind those of instructions two of each function, for its end and
         // its thrown end, whose stack is the set that is RETURNed or thrown
-        private long[] cells = new long[FIRST_CELLS];
+        private final long[] cells = new long[MOST_CELLS];
         private final int[] offset = new int[STATES];
         private final boolean[] reached = new boolean[STATES];
         private final boolean[] queued = new boolean[CODE_LIMIT];
@@ -4376,7 +4363,8 @@ public final class ScriptTypes {
             return state < code.count ? code.height[state] : 1;
         }
 
-        private void layOut() {
+        // Whether all states have found their places: they do, as MOST_CELLS tells.
+        private boolean layOut() {
             int rows = HEAD + shape.labels * shape.row;
             int total = 0;
             int states = endOf(code.functions);
@@ -4388,19 +4376,19 @@ public final class ScriptTypes {
                 }
             }
             if (total > cells.length) {
-                cells = new long[Math.max(total, MOST_CELLS)];
-            } else {
-                Arrays.fill(cells, 0, total, 0);
+                return false;
             }
-            now.makeRoom(code.highest);
-            way.makeRoom(code.highest);
+            Arrays.fill(cells, 0, total, 0);
+            return true;
         }
 
         // ---- the solution
 
         void work() {
             shape.fit(code, texts);
-            layOut();
+            if (!layOut()) {
+                return;
+            }
             for (int k = 0; k < CODE_LIMIT; k++) {
                 called[k] = 0;
                 warned[k] = 0;
