@@ -1419,7 +1419,7 @@ public final class ScriptTypes {
                     case CONTINUE: leaveLoop(op[i], context, depth); break;
                     case GO_BACK: leaveFunction(context, depth); break;
                     case END_FINAL: thrownFinal(a[i], b[i], context, depth); break;
-                    case BODY: i = bodyTo[a[i]]; break;
+                    case BODY: i = Math.max(i, bodyTo[a[i]]); break;
                     default: single(op[i], a[i], b[i]); break;
                 }
             }
