@@ -9,13 +9,26 @@ final class Kit {
         "UNLESS", "AND", "OR", "RETURN", "THROW", "TRY", "LEAVE", "NAMESOF", "NEXT"};
 
     private static int wrong;
+    private static String sentence = "";
+    private static String told = "";
+    private static ScriptTypes reader;
+    private static int readerCalls;
 
     private Kit() {
+    }
+
+    /** The sentence of the document that the next checks are about; it is told once, with the first of them that fails. */
+    static void sentence(String words) {
+        sentence = words;
     }
 
     static void check(String what, Object got, Object want) {
         if (!String.valueOf(got).equals(String.valueOf(want))) {
             wrong++;
+            if (!sentence.equals(told)) {
+                told = sentence;
+                System.out.println("-- " + sentence);
+            }
             System.out.println(what + ": " + got + ", due is " + want);
         }
     }
@@ -62,9 +75,19 @@ final class Kit {
         return x;
     }
 
+    // An object for so many calls more; a new one when the last one's 512 would not do.
+    private static ScriptTypes reader(int calls) {
+        if (reader == null || readerCalls + calls > 512) {
+            reader = new ScriptTypes();
+            readerCalls = 0;
+        }
+        readerCalls += calls;
+        return reader;
+    }
+
     /** The fault and the line, as "2:1"; "0" without one. */
     static String fault(String text) {
-        int fault = read(new ScriptTypes(), text);
+        int fault = read(reader((text.length() + 19) / 20 + 4), text);
         return fault == 0 ? "0" : (fault & 7) + ":" + (fault >> 3);
     }
 
