@@ -119,7 +119,7 @@ public final class GrammarBoundsTest {
             fault(text + "d", "0");
             fault(text, "2:1");
             fault(text + "}", "2:1");
-            fault(text.replace("for(", "for(var "), (part & 1) != 0 ? "2:1" : "2:1");
+            fault(text.replace("for(", "for(var "), "2:1");
             fault(text.replace("for(", "for(var ") + ";", (part & 1) != 0 ? "0" : "2:1");
         }
         all("0", "for(a,b;c,d;e,f)g", "for(var a=1,b=2;;);", "for(var a,b;;);", "for(var a=1;;);", "for(a=1;a<2;a++);", "for(;;)for(;;);", "for\n(\n;\n;\n)\n;", "for({};;);",
@@ -194,7 +194,7 @@ public final class GrammarBoundsTest {
         all("0", "switch(a){}", "switch(a){case 1:}", "switch(a){default:}", "switch(a){case 1:b;c}", "switch(a){case 1:case 2:}", "switch(a){default:case 1:}",
             "switch(a){case 1:default:}", "switch(a){case 1:default:case 2:}", "switch(a,b){case c,d:}", "switch(a){case b?c:d:}", "switch(a){" + times("case 1:", 50) + "}",
             "switch(a){case 1:switch(b){default:}default:}", "switch(a){default:switch(b){default:}}", "switch(a){case{}:}", "switch(a){case 1:{}default:;}", "switch\n(\na\n)\n{\ncase\n1\n:\n}",
-            "switch(a){case b\ncase c:}".replace("b\n", "b:\n"), "switch(a){case 1:b\ncase 2:c}", "switch(a){case 1:b}c", "switch(a){case'b':}", "switch(a){}switch(b){}");
+            "switch(a){case b:\ncase c:}", "switch(a){case 1:b\ncase 2:c}", "switch(a){case 1:b}c", "switch(a){case'b':}", "switch(a){}switch(b){}");
         all("2:1", "switch", "switch(", "switch()", "switch(a)", "switch(){}", "switch(a){", "switch a{}", "switch(a)b", "switch(a){b}", "switch(a){;}", "switch(a){case:}", "switch(a){case 1}",
             "switch(a){case 1;}", "switch(a){default}", "switch(a){default 1:}", "switch(a){default;}", "switch(a){case 1:b case 2:c}", "switch(a){case 1:", "case 1:", "default:", "case",
             "default", "{case 1:}", "switch(a){case 1:{case 2:}}", "switch(a){case 1:if(b)case 2:}", "switch(a){else:}", "switch(a){case 1:}}", "switch(a){case 1:)}", "switch(a){case 1,:}",
@@ -347,7 +347,7 @@ public final class GrammarBoundsTest {
         same("typeof a==b", "(typeof a)==b");
         same("- -a", "-(-a)");
         same("-~!+a", "-(~(!(+a)))");
-        same("delete a.b.c", "delete((a.b).c)".replace("((a.b).c)", " (a.b).c"));
+        same("delete a.b.c", "delete (a.b).c");
         same("++a.b", "++(a).b");
         all("2:1", "delete", "delete;", "++", "--", "++;", "delete *a", "++ *a", "void", "typeof", "typeof)", "- ", "~)", "!]");
         Kit.sentence("or a LEFT, perhaps with ++ or -- behind on the line where it ends");
