@@ -150,6 +150,14 @@ public final class FaultBoundsTest {
         fault("function f(a,\na\n){}", "3:2");
         fault("function f(a,b,\nb", "3:2");
         fault("x=function(a,\na", "3:2");
+        for (String two : new String[] {"ab,ab", "abc,x,abc", "longnamed,longnamed", "$,_,$", "a1,a2,a1", "aa,a,aa"}) {
+            fault("function f(" + two + "){}", "3:1");
+            fault("x=function(" + two + "){}", "3:1");
+        }
+        for (String two : new String[] {"ab,ac", "ab,bb", "ab,a", "a,ab", "abc,abd", "abc,xbc", "abc,axc", "ab,ba", "a,A", "a1,a2", "f,x", "aa,a"}) {
+            fault("function f(" + two + "){}", "0");
+            fault("x=function(" + two + "){}", "0");
+        }
         fault("x=function a(a){}", "0");
         fault("function f(a){x=function(a){}}", "0");
         fault("function f(a){var a}", "0");

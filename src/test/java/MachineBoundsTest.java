@@ -189,6 +189,9 @@ public final class MachineBoundsTest {
         each("NaN", "undefined+1", "1+undefined", "NaN+1", "1+NaN", "undefined+null", "undefined+true");
         each("2", "true+true", "null+2");
         each("0", "null+null", "false+null");
+        ScriptTypes named = Kit.run("print('len'+'gth');print(''+'');print('pro'+'totype');print({length:7}['len'+'gth'])");
+        Kit.check("texts that are names are those names", named.printed(0, -1) + " " + named.printed(1, -1) + " " + named.printed(2, -1) + " " + Kit.printedLine(named, 3) + " "
+            + (named.count(9) - named.count(2)), "0 30 1 7 1");
         Kit.sentence("(that alone is made)");
         Kit.check("'a'+5", made("'a'+5") + " " + made("'a'+5+6") + " " + made("5+'a';5+'a'") + " " + made("'a'+''") + " " + made("'a'+5;'a5'"), "1 2 1 0 0");
         Kit.check("{}+7", made("a={}+7") + " " + made("7+7") + " " + made("{};''+{}") + " " + made("[]+{}") + " " + made("'a'+null;'anull'"), "1 0 0 1 0");
