@@ -413,7 +413,7 @@ public final class AbstractBoundsTest {
         is("function F(){}for(k in 1)F.prototype=new F;o=new F;z=o.p", "undefined");
         is("function F(){}for(k in 1){F.prototype=new F;F.prototype.p=1}o=new F;z=o.p", "undefined 1");
         is("function F(){}F.prototype={p:1};for(k in 1){F.prototype=new F;F.prototype=new F}o=new F;z=o.p", "1");
-        is("function F(){}for(k in 1){F.prototype=new F;F.prototype=new F}F.prototype={p:1};z=new F().p", "undefined 1");
+        is("function F(){}for(k in 1){F.prototype=new F;F.prototype=new F}F.prototype={p:1};z=new F().p", "1");
         Kit.sentence("if it may be ABSENT and the PROTO may be null, it can be MISSED");
         is("z={}.p", "undefined");
         is("for(k in 1)Object.prototype.p=1;z={}.p", "undefined 1");
