@@ -39,6 +39,7 @@ public final class MachineBoundsTest {
         callNative();
         ownProperties();
         signsOfStrings();
+        steps();
         shortWays();
         lists();
         thrown();
@@ -725,6 +726,17 @@ public final class MachineBoundsTest {
         each("c", "'abc'.charAt(2)");
         each("", "'abc'.charAt(3)", "'abc'.charAt(-1)", "''.charAt(0)", "''.charAt()", "'abc'.charAt(2147483647)", "'abc'.charAt(-2147483647-1)", "'abc'.charAt(4)", "'abc'.charAt('-1')");
         Kit.check("the sign is made", made("'xyz'.charAt(1)") + " " + made("'xyz'.charAt(3)") + " " + made("'xyz'.charAt(1);'y'") + " " + made("'xyz'.charAt('1')"), "1 0 0 1");
+    }
+
+    private static void steps() {
+        Kit.sentence("COPY TWO: both on top once more; UNDER: the value on top comes beneath the two below it, too.");
+        output("x=5;print(x++);print(x);print(++x);print(x--);print(--x)", "5/6/7/7/5/ended");
+        output("x='5';print(typeof x++);print(x);x='5';print(x--+1);x='5';print(++x);x='a';print(x++);print(x)", "number/6/6/6/NaN/NaN/ended");
+        output("o={k:5};print(o.k++);print(o.k);print(++o.k);print(o['k']--);print(--o.k);print(o.k+=3);print(o.k-=1)", "5/6/7/7/5/8/7/ended");
+        output("o={k:'5'};print(typeof o.k++);print(o.k);o.k='x';print(o.k--);o={};print(o.q++);print(o.q)", "number/6/NaN/NaN/NaN/ended");
+        output("function f(a){print(a++);print(a);print(--a);return function(){return a++ + ++a}}g=f(1);print(g());print(g())", "1/2/1/4/8/ended");
+        output("n=0;function o(){n++;return {k:1}}o().k++;o().k+=1;++o().k;print(n)", "3/ended");
+        output("a=[1,2];i=0;a[i++]+=5;print(a[0]+'|'+a[1]+'|'+i);a[i++]++;print(a[0]+'|'+a[1]+'|'+i)", "6|2|1/6|3|2/ended");
     }
 
     private static void shortWays() {
