@@ -38,6 +38,7 @@ public final class AbstractBoundsTest {
         objectNatives();
         callNative();
         news();
+        heights();
         reached();
         flags();
         asking();
@@ -555,6 +556,9 @@ public final class AbstractBoundsTest {
         is("function f(a,b){z=b}f(1,2)", "2");
         is("function f(a,b){z=b}f(1,2,3)", "2");
         is("function f(a,b){z=b}f(1);f(1,2)", "undefined 2");
+        is("function f(a){var b;z=b}f(1,2)", "undefined");
+        is("x=function f(a){z=f};x(1,2)", "L31");
+        is("function f(){var b;z=b}f(1)", "undefined");
         is("function f(){z=v;var v=1}f()", "undefined");
         is("x=function f(){z=f};x()", "L31");
         is("x=function f(f){z=f};x()", "undefined");
@@ -718,6 +722,13 @@ public final class AbstractBoundsTest {
         is("function F(){}z=typeof new F", "'object'");
         is("function F(){z=typeof this}new F", "'object'");
         is("for(k in 1){var p=o,o=function(){}}if(p)z=typeof p", "STR");
+        for (int sites = 1; sites < 8; sites++) {
+            is("[];".repeat(sites) + "z=typeof {}", "'object'");
+            is("function f(){}" + "[];".repeat(sites) + "z=typeof {}", "'object'");
+            is("[];".repeat(sites) + "z=[].length", "0");
+            is("[];".repeat(sites) + "v={};try{v()}catch(e){z=e}", "L26");
+            is("[];".repeat(sites) + "o={};o[0]=1;z=o.length", "undefined");
+        }
         is("for(k in 1){var p=print;for(j in 1)p=o;var o=function(){};o.x=p}o=o;for(k in 1)for(j in 1){var y=w;var w=function(){}}v=print;for(k in 1)if(y)v=v;z=typeof v", "'function'");
         Kit.sentence("TYPE GLOBAL: typeof of it, name 19 too if it may be ABSENT");
         is("z=typeof q", "'undefined'");
@@ -1092,6 +1103,34 @@ public final class AbstractBoundsTest {
         is("function F(){for(k in 1)return print}z=new F", "L9 L35 L36");
         is("function F(){return this}z=new F", "L35");
         is("function F(){}function G(){return print}" + any("v", "F", "G", "Object") + "z=new v", "L9 L23 L41 L42");
+    }
+
+    private static void heights() {
+        Kit.sentence("height: How many sets are on the stack ahead of instruction k; NONE if it is not reached, or nothing is solved.");
+        ScriptTypes x = solved("o={k:[1]};o.k++;o.k+=f(2,3);delete o.k;-(o&&1)");
+        StringBuilder s = new StringBuilder();
+        for (int k = 0; k < x.count(0); k++) {
+            s.append(x.height(k)).append(' ');
+        }
+        Kit.check("heights of a script that ends at f", s.toString().trim(),
+            "0 1 2 3 4 5 6 7 5 4 2 1 1 0 1 2 4 3 3 4 5 4 2 1 0 1 2 4 3 4" + " -1".repeat(x.count(0) - 30));
+        for (String text : new String[] {"o={k:[1,2]};o.k++;--o.k;o.k+=f(2,3);o[1]-=4;function f(a){a=a;a++;return typeof a}", "for(k in {a:1,b:2})try{[k,q]}catch(e){}finally{1}",
+            "function F(a){this.a=a;return}new F(new F(1));delete new F(2).a;typeof q;typeof F;1?2:3;0||1;1&&2;void 0;1 in [];({}) instanceof Object",
+            "function f(){for(k in {a:1})try{return k}finally{break}}f()+f();switch(1){case 2:default:3}do{}while(0);try{throw 1}catch(e){print(1,2,e)}",
+            "function f(){while(1)try{for(k in {a:1})return 2}finally{break}}f();print.call(1,2);x=[function(){return -1}];x[0]()"}) {
+            heightsAsMachine(text);
+        }
+    }
+
+    private static void heightsAsMachine(String text) {
+        ScriptTypes x = solved(text);
+        x.begin();
+        while (x.count(6) == 1) {
+            int k = x.frame(0, 1);
+            Kit.check("height at " + k + " of " + text, x.height(k), x.frame(0, 2));
+            x.run(1);
+        }
+        Kit.check("end of " + text, x.count(6), 2);
     }
 
     private static void reached() {

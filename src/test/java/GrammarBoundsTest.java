@@ -409,6 +409,12 @@ public final class GrammarBoundsTest {
         fault("f(" + list("1", 8) + "\n,1)", "2:2");
         fault("new f(" + list("1", 8) + "\n,1)", "2:2");
         fault("f(" + list("1", 8) + "\n)", "0");
+        fault("f(" + list("1", 8) + ",\n1)", "2:1");
+        fault("new f(" + list("1", 8) + ",\n1)", "2:1");
+        fault("[" + list("1", 16) + ",\n1]", "2:1");
+        fault("x={" + list("a:1", 16) + ",\na:1}", "2:1");
+        fault("function z(a,b,c,d,e,f,g,h,\ni){}", "2:1");
+        fault("x=function(a,b,c,d,e,f,g,h,\ni){}", "2:1");
         Kit.sentence("[ up to 16 A with commas ]");
         for (int n = 0; n <= 18; n++) {
             fault("[" + list("1", n) + "]", n <= 16 ? "0" : "2:1");

@@ -408,6 +408,8 @@ public final class MachineBoundsTest {
         output("try{q=r}catch(e){print(typeof q)}q=1;print(q)", "undefined/1/ended");
         output("try{q+=1}catch(e){print(e.name)}try{q++}catch(e){print(e.name)}try{q()}catch(e){print(e.name)}", "ReferenceError/ReferenceError/ReferenceError/ended");
         output("print(a=b=7);print(a+b)", "7/14/ended");
+        ScriptTypes again = Kit.run("v=print;print=5;v(print);v(typeof print);Object=print;v(Object)");
+        Kit.check("a global that was there is set", Kit.output(again) + " " + again.object(0, 3), "5/number/5/ended 10");
         output("q", "uncaught #23");
         output("Object.prototype.z=5;try{z}catch(e){print(e.name)}print(typeof z)", "ReferenceError/undefined/ended");
     }
@@ -539,6 +541,14 @@ public final class MachineBoundsTest {
             output("f=" + value + ";try{f()}catch(e){print(e.name)}o={f:f};try{o.f(1,2)}catch(e){print(e.name)}", "TypeError/TypeError/ended");
         }
         output("try{({}).f()}catch(e){print(e.name)}try{null.f()}catch(e){print(e.name)}", "TypeError/TypeError/ended");
+        Kit.sentence("a number is no object, also if an object has that number");
+        for (String text : new String[] {"(10)()", "new 10", "({}) instanceof 10", "5 instanceof 14", "'print' in 0", "({}).hasOwnProperty.call(0,'print')", "[].push.call(23,1)", "[].pop.call(23)",
+            "print.call.call(9,1)", "(9).call(0,1)", "'a'.charAt.call(0)", "a=[];a.push.call(23)", "5 instanceof {prototype:{}}", "({}) instanceof {prototype:Object.prototype}"}) {
+            output("try{" + text + "}catch(e){print(e.name)}", "TypeError/ended");
+        }
+        output("print((0).print);print((10).prototype);(0).x=1;print(typeof x);print(delete (0).print);print(typeof print);for(k in 0)print(k);for(k in 23)print(k);print((4).charAt)",
+            "undefined/undefined/undefined/true/function/undefined/ended");
+        output("function F(){}F.prototype=1;o=new F;print(o.constructor===Object);print(1=={});print({}==23);print(print==9);print(typeof 9)", "true/false/false/false/number/ended");
         Kit.sentence("(the caller's place is the one behind the CALL from then on)");
         ScriptTypes x = Kit.script("function f(){}f(1,2)");
         x.begin();
@@ -574,6 +584,7 @@ public final class MachineBoundsTest {
         output("function f(a,b,c,d,e,f,g,h){print(h);print(a)}f(1,2,3,4,5,6,7,8);f(1,2,3,4,5,6,7)", "8/1/undefined/1/ended");
         output("function f(a){var a;print(a);var b;print(b);b=a;print(b)}f(5)", "5/undefined/5/ended");
         output("function f(){print(typeof g);function g(){}print(g.x);var g;print(typeof g)}f()", "function/undefined/function/ended");
+        output("function f(a){var b;print(b)}f(1,2);x=function g(a){print(typeof g)};x(1,2);function h(){var b;print(b)}h(7)", "undefined/function/undefined/ended");
         Kit.sentence("its own name, if no parameter is called so, is f, also when a var has it");
         output("x=function f(){return f};print(x()===x)", "true/ended");
         output("x=function f(f){return f};print(x());print(x(5))", "undefined/5/ended");
@@ -771,6 +782,9 @@ public final class MachineBoundsTest {
         output("o={a:1,b:2,c:3};for(k in o){print(k);delete o.b;o.b=1}", "a/c/ended");
         output("o={a:1,b:2,c:3};for(k in o){print(k);delete o.c;o.c=1}for(k in o)print(k)", "a/b/a/b/c/ended");
         output("o={a:1};for(k in o){print(k);o.b=1;o.c=2}", "a/ended");
+        output("k=0;o={a:1};for(k in o){print(k);o.b=1;o.c=2}", "a/ended");
+        output("k=0;o={};for(k in o)print(k);o={a:1};for(k in o){print(k);delete o.a;o.a=1;o.b=1}", "a/ended");
+        output("k=j=0;o={a:1,b:2};for(k in o){for(j in o)print(k+j);o.c=1}", "aa/ab/ba/bb/bc/ended");
         output("o={a:1,b:2};for(k in o){print(k);o.b=o.b+1}print(o.b)", "a/b/4/ended");
         output("o={a:1,b:2};for(k in o){print(k);o={}}", "a/b/ended");
         output("a=[1,2,3];for(k in a){print(k);a.pop()}", "0/1/ended");
