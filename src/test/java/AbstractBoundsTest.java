@@ -191,6 +191,10 @@ public final class AbstractBoundsTest {
         int k = x.count(0) - 1;
         Kit.check("their PROTOs", protos(x, k, 23, 24, 25, 26, 27, 28), "1 3 5 6 7 8");
         Kit.check("ahead", protos(x, 0, 23, 24, 25, 26, 27, 28), "- - - - - -");
+        for (int i = 0; i < 6; i++) {
+            int call = find(x, "CALL", i);
+            Kit.check("label " + (23 + i) + " around its call", x.link(call - 1, 23 + i, 5) + " " + x.link(call, 23 + i, 5) + " " + x.link(call + 1, 23 + i, 5), "0 0 1");
+        }
         Kit.sentence("then for each function g = 1, 2, .. six, from 29 + 6 * (g - 1) on: its latest scope, its older ones, its latest function's object, older ones, its latest prototype object, "
             + "older ones");
         is("function f(){}z=f", "L31");
@@ -209,6 +213,11 @@ public final class AbstractBoundsTest {
         is("[];z={}", "L31");
         is("function f(){}[];z={}", "L37");
         is("for(k in 1){var p=o;var o=[]}z=p", "undefined L30");
+        is("for(k in 1){var p=o;var o=[]}if(p){p.length='q';z=p.length}", "0");
+        is("for(k in 1){var p=o;var o=[]}if(p){p[0]=1;z=p.length}", "NUM");
+        is("for(k in 1){var p=o;var o=[]}p=p;z=delete p.length", "true false");
+        is("for(k in 1){var p=o;var o=[]}z=[].push.call(p,1)", "NUM");
+        is("for(k in 1){var p=o;var o={}}if(p){p.length='q';z=p.length}", "undefined 'q'");
         is("function F(){}[];z=new F", "L37 L38");
         is("function F(){z=this}new F", "L35");
         Kit.check("counts of labels", solved("").count(3) + " " + solved("function f(){}").count(3) + " " + solved("[];({});new f").count(3) + " " + solved("function f(){[]}").count(3), "29 35 35 37");
@@ -251,8 +260,11 @@ public final class AbstractBoundsTest {
         is(any("v", "1", "2", "NaN", "'a'", "'b'", "{}") + "z=v", "NaN NUM STR L29");
         is("v=5;for(k in 1)v=-k;z=v", "NaN NUM");
         Kit.sentence("To JOIN states: all parts (a stack's LIST is an EMPTY set).");
-        is("'p';v=0;for(k in 1)v=~k;o={};o.q=v;for(k in 1){o.p=1;o.q=5}z=o.p", "undefined 1");
-        is("function F(){}function mk(){o=new F}a={};b={p:1};F.prototype=a;mk();mk();F.prototype=a;o.p;z=o.p;F.prototype=b;mk()", "undefined 1");
+        is("'p';c=~print;o={};o.q=c;while(c){o.p=1;o.q=5}z=o.p", "undefined 1");
+        is("c=~print;o={};o.p=c;while(c){o.q=1;o.p=5}z=o.q", "undefined 1");
+        is("c=~print;o=p=0;while(c){o={};p=0}z=o", "0 L29");
+        is("c=~print;o={};while(c){q=1;o.p=5}z=typeof q", "STR");
+        is("function F(){}function mk(){o=new F}c=~print;a={};b={p:1};F.prototype=a;mk();mk();F.prototype=a;if(c){F.prototype=b;mk();for(;;);}z=o.p", "undefined 1");
         is("function f(){return h()}function g(){return 's'}function h(){return 1}" + any("v", "f", "g") + "z=v()", "1 's'");
         is("function g(){return 's'}function f(){return h()}function h(){return 1}" + any("v", "f", "g") + "z=v()", "1 's'");
         is("function f(){h()}function g(){throw 's'}function h(){throw 1}" + any("v", "f", "g") + "try{v()}catch(e){z=e}", "1 's' L28");
@@ -358,6 +370,8 @@ public final class AbstractBoundsTest {
             is("v=0;for(k in 1)v=~k;o={'" + name[0] + "':'q'};z=o[v]", name[1].equals("y") ? "undefined 'q'" : "undefined");
         }
         is("v=0;for(k in 1)v=~k;o={};o[77]='q';z=o[v]", "undefined 'q'");
+        is("o={null:1,5:'s'};" + any("w", "null", "~print") + "z=o[w]", "undefined 1 's'");
+        is("o={undefined:1,true:null,5:'s','[object]':{}};" + any("w", "undefined", "~print", "true", "{}") + "z=o[w]", "undefined null 1 's' L31");
         Kit.sentence("of ALL strings all NAMES and OTHER; of labels the name 29");
         is("o={5:null};for(k in 1)z=o[k]", "undefined null L10 L21");
         is("o={};o[7]='q';for(k in 1)z=o[k]", "undefined 'q' L10 L21");
@@ -426,6 +440,10 @@ public final class AbstractBoundsTest {
         is("function F(){}for(k in 1){F.prototype=new F;F.prototype.p=1}o=new F;z=o.p", "undefined 1");
         is("function F(){}F.prototype={p:1};for(k in 1){F.prototype=new F;F.prototype=new F}o=new F;z=o.p", "1");
         is("function F(){}for(k in 1){F.prototype=new F;F.prototype=new F}F.prototype={p:1};z=new F().p", "1");
+        is("function F(){}function h(){}function q(){return {p:1}}c=~print;Q=q();F.prototype=Q;do{F.prototype=new F;F.prototype=new F}while(c)o=new F;"
+            + "while(c){z=o.p;h();h();h();h();h();h();h();h();Q.p='s'}", "1 's'");
+        is(any("o", "{p:{}}", "{p:[]}") + "z=o.p", "L31 L35");
+        is("function F(){}F.prototype={p:1};" + any("o", "new F", "{p:'s'}", "{}") + "z=o.p", "undefined 1 's'");
         Kit.sentence("if it may be ABSENT and the PROTO may be null, it can be MISSED");
         is("z={}.p", "undefined");
         is("#Object.prototype.p=1;z={}.p", "undefined 1");
@@ -457,6 +475,8 @@ public final class AbstractBoundsTest {
         is("a={p:1,q:1};" + any("v", "'p'", "'q'") + "#v='p';a[v]='s';z=a.p", "1 's'");
         is("a={p:1};" + any("v", "'p'", "null") + "a[v]='s';z=a.p", "1 's'");
         is("a={p:1};" + any("v", "'p'", "null") + "a[v]='s';z=a[null]", "undefined 's'");
+        is("o={p:{}};" + any("w", "'p'", "null") + "o[w]=print;z=o.p", "L9 L31");
+        is("o={p:{}};" + any("w", "'p'", "null") + "o[w]=[];z=o.p", "L31 L33");
         is("a={p:1};a[7]='s';z=a.p", "1");
         is("a={p:1};a[7]='s';a[7]=null;z=a[7]", "undefined null 's'");
         is("a={7:1};a[7]='s';a[7]=null;z=a[7]", "null");
@@ -480,6 +500,8 @@ public final class AbstractBoundsTest {
         Kit.check("the stack", Kit.slot(stack, put, 4), "L31");
         ScriptTypes s = solved("function f(a){return a?[f(a-1),1]:{}}f(2)");
         Kit.check("the stack over a call that makes the same one", Kit.slot(s, find(s, "PUT", 0), 0) + "/" + Kit.slot(s, find(s, "PUT", 0), 1), "L35 L36/L35 L36");
+        is("c=~print;o=0;while(c)try{try{if(o)throw o}finally{o={}}}catch(x){z=x}", "0 L29 L32");
+        is("function F(a){z=a}o=0;while(~print)o=new F(o)", "0 L36");
         is("function F(n){if(n)new F(0);z=this}new F(1)", "L35 L36 L37 L38");
         ScriptTypes t = solved("function F(){z=this}for(k in 1)new F");
         Kit.check("THIS of a call is the latest one", Kit.slot(t, find(t, "THIS", 0), -1), "L35");
@@ -562,6 +584,7 @@ public final class AbstractBoundsTest {
         is("function h(){}function f(a){h();a='s';z=a}f(1)", "1 's'");
         is("function f(a,n){if(n)f(print,0);z=a;a=null}f(1,1)", "null 1 L9");
         is("function f(a,n){if(n)f([],0);z=a;a=print}f({},1)", "L9 L35 L37 L38");
+        is("function f(a,n){if(n){f([],0);z=a;return}a=print}f({},1)", "L9 L35 L38");
         Kit.sentence("variables as told: a parameter that has no argument, and others, are undefined");
         is("function f(a,b){z=b}f(1)", "undefined");
         is("function f(a,b){z=b}f(1,2)", "2");
@@ -840,6 +863,19 @@ public final class AbstractBoundsTest {
     }
 
     private static void ways() {
+        Kit.sentence("COPY, COPY TWO, UNDER: as told");
+        is("o={k:5};z=o.k++", "5");
+        is("o={k:5};o.k++;z=o.k", "6");
+        is("o={k:5};z=++o.k", "6");
+        is("o={k:5};z=o.k-=2", "3");
+        is("o={k:'a'};z=o.k+='b';'ab'", "'ab'");
+        is("o={k:5};o.k--;z=o.k", "4");
+        is("x=5;z=x++", "5");
+        is("x='5';z=x++", "5");
+        is("x=5;x++;z=x", "6");
+        is("o={k:{j:1}};o.k.j++;z=o.k.j", "2");
+        is("z=[1,[2],{}][0];'0'", "1");
+        is("o={k:5};o.k=7;z=o", "L29");
         Kit.sentence("UNLESS, AND, OR: both ways, as far as the value may be true, or false (AND and OR leave it whole).");
         is(any("v", "0", "1", "null") + "z=v&&'a'", "null NUM 'a'");
         is(any("v", "0", "1", "null") + "z=v||'a'", "null NUM 'a'");
@@ -899,6 +935,8 @@ public final class AbstractBoundsTest {
         ScriptTypes r = solved("function f(a){return function(){return a}}g=f(1);h=f(2);g()");
         int load = find(r, "LOAD1:a", 0);
         Kit.check("LINKs of the scope", r.link(load, 35, 3), 1L << 30);
+        ScriptTypes at1 = solved("function f(a){return function(){return a}}g=f(1);h=f(2);" + any("v", "g", "h") + "v()");
+        Kit.check("LINKs of both at once", at1.link(find(at1, "LOAD1:a", 0), 35, 3), (1L << 29) + (1L << 30));
         ScriptTypes both = solved("function f(a){return function(){return a}}g=f(1);h=f(2);g();h()");
         load = find(both, "LOAD1:a", 0);
         Kit.check("LINKs of both", both.link(load, 35, 3), (1L << 29) + (1L << 30));
@@ -926,6 +964,9 @@ public final class AbstractBoundsTest {
         Kit.sentence("From its THROWN END likewise thrown in the caller. (All calls of a function are joined.)");
         is("function f(){throw 5}try{f()}catch(e){z=e}", "5 L28");
         is("function f(a){throw a}try{f(1)}catch(e){}try{f('s')}catch(e){z=e}", "1 's' L28");
+        is("function f(){o.p='s';throw 1}o={p:1};try{f()}catch(e){z=o.p}", "1 's'");
+        is("function g(){}function f(){o.p='s';throw 1}o={p:1};try{g(f())}catch(e){z=o.p}", "1 's'");
+        is("function g(){o.p='t'}function f(){o.p='s';throw 1}o={p:1};try{f();g()}catch(e){z=o.p}", "1 's'");
         is("function f(a){return a}f(1);z=f('s')", "1 's'");
         is("function f(a){return a}z=f('s');f(1)", "1 's'");
         ScriptTypes e = solved("function f(a){if(a)f(0);throw 1}f(1)");
@@ -995,12 +1036,20 @@ public final class AbstractBoundsTest {
         is("a=[];a.push('q',null);z=a[0];'0'", "undefined 'q'");
         ScriptTypes p = solved("a=[];a.push();z=1;'0'");
         Kit.check("without an argument UNDEFINED is joined", Kit.field(p, find(p, "SETGLOBAL:z", 0), 29, "0"), "undefined absent");
+        is("a=[{}];a.push(print);z=a[0];'0'", "L9 L31");
+        is("a=[{}];a.push([]);z=a[0];'0'", "L31 L33");
+        is("a=[];o={};" + any("v", "a", "o") + "a.push.call(v,'q');z=o[0];'0'", "undefined");
+        is("a=[];o={length:'q'};" + any("v", "a", "o") + "a.push.call(v,'q');z=o.length", "'q'");
+        is("a=[];o={0:1};" + any("v", "a", "o") + "a.pop.call(v);z=o[0]", "1");
+        is("a=[];b=[];" + any("v", "a", "b") + "a.push.call(v,'q');z=b[0];'0'", "undefined 'q'");
         is("a=[];a.p=1;a.push('q');z=a.p", "1");
         is("a=[];b=[];a.push('q');z=b[0];'0'", "undefined");
         Kit.sentence("pop: the join of their fields of all INDEX names and OTHER, and UNDEFINED; these may all be ABSENT then, length is joined with ALL numbers");
         is("a=[1];z=a.pop();'0'", "undefined 1");
         is("a=[1];z=a.pop()", "undefined 1");
         is("a=[1,'s'];z=a.pop();'0'+'1'", "undefined 1 's'");
+        is("a=[{},[]];z=a.pop();'0'+'1'", "undefined L31 L33");
+        is("a=[{},print];z=a.pop();'0'+'1'", "undefined L9 L31");
         is("a=[];a['100']='s';z=a.pop()", "undefined");
         is("a=[];a['05']='s';a.p='t';z=a.pop()", "undefined");
         is("a=[];a[99]='s';z=a.pop();'99'", "undefined 's'");
@@ -1038,6 +1087,11 @@ public final class AbstractBoundsTest {
             Kit.check("charAt of " + value, x.warns(find(x, "CALL", 0)) + " " + top(x, find(x, "SETGLOBAL:z", 0)), "5 not reached");
             ScriptTypes y = solved(any("v", value, "'b'") + "z='a'.charAt.call(v,0)");
             Kit.check("charAt of " + value + " or a string", y.warns(find(y, "CALL", 0)) + " " + top(y, find(y, "SETGLOBAL:z", 0)), "1 STR");
+        }
+        for (String text : new String[] {"'abc'.charAt(1)", "for(k in 1)k.charAt(1)", any("v", "'a'", "'b'") + "v.charAt(1)", "({}).hasOwnProperty(1)", "[].hasOwnProperty(1)", "[].push(1)",
+            "Array().pop()", "print.call(1)", "isNaN(1)", "String(1)", "Object(1)", "Error(1)"}) {
+            ScriptTypes x = solved(text);
+            Kit.check("warns of " + text, x.warns(find(x, "CALL", 0)), 0);
         }
         is("z='abc'.charAt(1)", "STR");
         is("z='abc'.charAt()", "STR");
