@@ -24,11 +24,19 @@ public final class CodeBoundsTest {
     }
 
     private static void code(String text, String want) {
-        Kit.check("code of " + text, Kit.code(text), want + (want.isEmpty() ? "" : " ") + "undefined RETURN");
+        ScriptTypes x = Kit.script(text);
+        Kit.check("code of " + text, Kit.code(x), want + (want.isEmpty() ? "" : " ") + "undefined RETURN");
+        noStray(text);
     }
 
     private static void function(String body, String want) {
         Kit.check("code of a function " + body, Kit.code("function f(p){" + body + "}"), "FUNCTION1 SETGLOBAL:f DROP undefined RETURN " + want);
+        noStray("function f(p){" + body + "}");
+    }
+
+    // (0 where none is told)
+    private static void noStray(String text) {
+        Kit.check("places with an a or b that is not told, of " + text, Kit.stray(Kit.script(text)), "");
     }
 
     // The functions of all instructions, as one word.
@@ -155,6 +163,12 @@ public final class CodeBoundsTest {
         Kit.check("ways", raw(Kit.script("a?1:2;a&&3;a||4;while(5);")), "3,0,31 22,4,0 0,5,1 21,5,0 0,5,2 17,0,0 3,0,31 23,9,0 0,5,3 17,0,0 3,0,31 24,13,0 0,5,4 17,0,0 0,5,5 22,17,0 21,14,0 "
             + "0,0,0 25,0,0");
         Kit.check("tries and lists", raw(Kit.script("for(a in 1);try{throw 2}finally{}")), "0,5,1 29,0,0 30,6,0 4,0,31 17,0,0 21,2,0 27,11,0 0,5,2 26,0,0 28,0,0 21,12,0 26,0,0 0,0,0 25,0,0");
+        for (String text : new String[] {"var a,b=1;function f(){var c=2;return}x=function(){};a,b;a+b;a&&b;a||b;a?b:a", "o={k:1};o.k++;o.k+=1;--o.k;o[1]--;x++;--x;delete o.k;typeof x;typeof o.k;void 0",
+            "if(a)b;else c;while(a){break;continue}do{break;continue}while(a)for(;;){break}for(;a;b){continue}for(var k in a){break;continue}", "switch(a){case 1:b;default:c;break}throw a",
+            "try{a}catch(e){b}finally{c}while(a)try{break}finally{continue}", "function f(){for(k in a)try{return 1}finally{break}return 2}function g(){try{try{return}finally{return}}finally{a}}",
+            "f(1);o.f(2);new F(3);new F;[1,{k:2}];(o.k)();this;-a;+a;~a;!a;'s';undefined;null;true;false;NaN"}) {
+            noStray(text);
+        }
         String[] unary = {"+", "-", "~", "!", "typeof "};
         for (int i = 0; i < unary.length; i++) {
             Kit.check("unary " + unary[i], raw(Kit.script(unary[i] + "1")), "0,5,1 13," + i + ",0 17,0,0 0,0,0 25,0,0");

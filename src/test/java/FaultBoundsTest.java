@@ -188,6 +188,11 @@ public final class FaultBoundsTest {
             fault(text.replace("#", "continue;"), "3:1");
             fault("while(a)" + text.replace("#", "continue;"), text.startsWith("function") ? "2:1" : "0");
         }
+        all("0", "switch(a){case 1:b=function(){};break}", "while(a){b=function(){};continue}", "while(a){b=function(){while(c);};break}", "switch(a){case 1:b=function(){switch(c){}};break}",
+            "switch(a){case 1:switch(b){case 2:}break}", "while(a){switch(b){case 1:}continue}", "switch(a){case 1:while(b);break}", "for(;;){function_=1;break}");
+        all("3:1", "switch(a){case 1:}break", "switch(a){default:}break", "switch(a){case 1:switch(b){case 2:}}break", "while(a){}break", "function f(){switch(a){case 1:}break}",
+            "switch(a){case 1:b=function(){switch(c){case 2:}break}}", "switch(a){case 1:while(b);continue}", "while(a)switch(b){case 1:}continue", "x=function(){while(a);};break",
+            "x=function(){switch(a){case 1:}};break", "function f(){return}return", "x=function(){function g(){}};return");
         String[] nowhere = {"#", "{#}", "if(a)#", "if(a);else #", "try{#}finally{}", "try{}catch(e){#}", "try{}finally{#}", "while(a);#", "do;while(a)#", "for(;;);#", "for(a in b);#",
             "switch(a){}#", "while(a){b=function(){#}}", "for(a in b)c=function(){#}", "switch(a){case 1:b=function(){#}}", "while(a)b=function(){if(c)#}", "while(function(){#});",
             "for(;;function(){#});", "do;while(function(){#})", "while(a)b=function(){while(c);#}", "function f(){#}"};
@@ -288,6 +293,21 @@ public final class FaultBoundsTest {
             times("while(a);", 30), "[" + times("(1),", 15) + "(1)]", times("new a;", 19), times("a?b:c,", 25) + "a", "!" + "{a:(1),b:(1),c:(1)}", times("new a(1)+", 18) + "1");
         all("0", times("{", 18) + "(a)+(a);(a);[];[];a(1)(2)(3);-a+-a;a=1,a=2;a?b:c,d?e:f" + times("}", 18));
         fault("a?b:c" + times(",a?b:c", 20), "0");
+        fault(times("function f(){}", 10) + times("{", 20) + times("}", 20), "0");
+        fault(times("function f(){}", 10) + times("{", 20) + "\n;" + times("}", 20), "5:2");
+        fault(times("x=function(){};", 10) + times("{", 20) + times("}", 20), "0");
+        fault(times("!function(){};", 10) + times("{", 18) + "(a)" + times("}", 18), "0");
+        fault(times("{", 18) + times("(a);", 30) + times("}", 18), "0");
+        fault(times("{", 18) + times("-a;", 30) + times("}", 18), "0");
+        fault(times("{", 18) + times("a=1;", 30) + times("}", 18), "0");
+        fault(times("{", 18) + times("a?1:2;", 20) + times("}", 18), "0");
+        fault(times("{", 18) + times("new a;", 18) + times("}", 18), "0");
+        fault(times("{", 18) + times("[];", 18) + times("}", 18), "0");
+        fault(times("{", 18) + times("a();a[1];", 18) + times("}", 18), "0");
+        fault(times("{", 19) + times("if(a);while(a);;", 18) + times("}", 19), "5:1");
+        fault(times("{", 18) + times("if(a);while(a);;", 18) + times("}", 18), "0");
+        fault(times("{", 18) + times("try{;}finally{;}", 8) + times("}", 18), "0");
+        fault(times("{", 18) + "try{}catch(e){;}switch(a){case 1:;}do;while(a)for(;;);" + times("}", 18), "0");
         fault(times("{", 17) + "a?b=\n1:c" + times("}", 17), "0");
         fault(times("{", 18) + "a?b=\n1:c" + times("}", 18), "5:2");
         fault(times("{", 17) + "a?b:c=\n1" + times("}", 17), "0");

@@ -146,6 +146,20 @@ final class Kit {
         return String.join(" ", words);
     }
 
+    /** The places where a or b is not 0 though none is told. */
+    static String stray(ScriptTypes x) {
+        StringBuilder places = new StringBuilder();
+        for (int k = 0; k < x.count(0); k++) {
+            int op = x.instruction(k, 0);
+            boolean hasA = op <= 2 || op >= 7 && op <= 9 || op >= 13 && op <= 16 || op >= 21 && op <= 24 || op == 27 || op == 30;
+            boolean hasB = op == 0 ? x.instruction(k, 1) >= 5 : op <= 5 || op == 16;
+            if (!hasA && x.instruction(k, 1) != 0 || !hasB && x.instruction(k, 2) != 0) {
+                places.append(k).append(' ');
+            }
+        }
+        return places.toString();
+    }
+
     static String code(String text) {
         return code(script(text));
     }

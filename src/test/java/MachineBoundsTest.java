@@ -223,7 +223,7 @@ public final class MachineBoundsTest {
         prints("''-1", "-1");
         each("NaN", "1/0", "0/0", "1%0", "0%0", "-1/0", "1/null", "1/''", "1/false", "1%null", "1-undefined", "undefined-1", "1*NaN", "NaN*1", "NaN*0", "0/NaN", "NaN/1", "NaN%1", "1%NaN",
             "{}-1", "1-{}", "'x'*1", "1*'x'", "NaN-NaN", "NaN/0", "[]*1", "(-2147483647-1)/0");
-        each("0", "0/1", "0%1", "0/-1", "null/1", "1%1", "0*5", "(-2147483647-1)%-1");
+        each("0", "5*0", "0*0", "-5*0", "null*null", "'0'*7", "5*''", "0-0", "0/1", "0%1", "0/-1", "null/1", "1%1", "0*5", "(-2147483647-1)%-1");
         prints("2147483647/-1", "-2147483647");
         prints("(-2147483647-1)/1", "-2147483648");
     }
@@ -887,6 +887,12 @@ public final class MachineBoundsTest {
             }
             Kit.check("value " + value[0], x.value(0, 0, 0) + " " + x.value(0, 0, 1) + " " + x.value(0, 0, 2) + " " + x.value(0, 0, -1) + " " + x.value(0, 1, 0), value[1] + " -1 -1 -1");
         }
+        for (String text : new String[] {"z=1<2;z=1>2;z=1/0;z=5%0;z=+'x';z=-{};z=!1;z=!0;z=void 0;z=1-{};z=1===1;z=1!=1;z=null==undefined", "z='a' in {};z={} instanceof Object;z={}.q;z='x'.q;z=true.q;"
+            + "z=delete {}.a;z=delete [].length;z=delete (5).x;z=undefined;z=null;z=NaN;z=true;z=false", "z=isNaN(1);z=isNaN('x');z={}.hasOwnProperty('a');z=[].pop();z=print();a=[1];a.pop();z=a.pop()",
+            "function f(a,b){var c;z=c;z=b;z=this;return}z=f();z=f.call();z=f(1)", "var v;z=v;for(k in {a:1})z=k;z=NaN+1;z=undefined+1;z=NaN-1;z=-NaN;z=+NaN;z=+undefined",
+            "o={u:undefined,n:null,t:true,f:false,a:NaN};z=o.u;z=o.n;z=o.t;z=o.f;z=o.a;z=[undefined][0]", "a=[9];delete a[0];z=a.pop();z='a'<'b';z='b'<='a';z=1>=NaN;z=0||undefined;z=1&&null"}) {
+            noDatum(text);
+        }
         ScriptTypes y = Kit.script("function f(){return this}f.call('s');f.call(9);f.call(print);f.call()");
         y.begin();
         StringBuilder s = new StringBuilder();
@@ -903,6 +909,37 @@ public final class MachineBoundsTest {
         empty.begin();
         empty.run(2);
         Kit.check("an empty LIST", empty.value(0, 0, 0) + " " + empty.value(0, 0, 1), "8 0");
+    }
+
+    // At each step: undefined, null, true, false and NaN have 0 as their second word, on the stack, as this, and in the variables.
+    private static void noDatum(String text) {
+        ScriptTypes x = Kit.script(text);
+        x.begin();
+        for (int step = 0; x.count(6) == 1; step++) {
+            if (step % 40 == 39) {
+                ScriptTypes next = Kit.script(text);
+                next.begin();
+                next.run(x.count(7));
+                x = next;
+            }
+            x.run(1);
+            int top = x.frame(0, 2) - 1;
+            int kind = x.value(0, top, 0);
+            if (kind >= 0 && kind <= 4) {
+                Kit.check("second word of kind " + kind + " at step " + step + " of " + text, x.value(0, top, 1) + " " + (x.value(0, -1, 0) <= 4 ? x.value(0, -1, 1) : 0), "0 0");
+            }
+            int scope = x.frame(0, 3);
+            for (int k = 0; scope >= 0 && k < x.object(scope, 3); k++) {
+                if (x.property(scope, k, 1) <= 4) {
+                    Kit.check("second word of variable " + k + " at step " + step + " of " + text, x.property(scope, k, 2), 0);
+                }
+            }
+        }
+        for (int k = 9; k < x.object(0, 3); k++) {
+            if (x.property(0, k, 1) <= 4) {
+                Kit.check("second word of global " + k + " of " + text, x.property(0, k, 2), 0);
+            }
+        }
     }
 
     private static void lookingAtObjects() {
