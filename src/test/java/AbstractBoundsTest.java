@@ -502,6 +502,7 @@ public final class AbstractBoundsTest {
         Kit.check("the stack over a call that makes the same one", Kit.slot(s, find(s, "PUT", 0), 0) + "/" + Kit.slot(s, find(s, "PUT", 0), 1), "L35 L36/L35 L36");
         is("c=~print;o=0;while(c)try{try{if(o)throw o}finally{o={}}}catch(x){z=x}", "0 L29 L32");
         is("function F(a){z=a}o=0;while(~print)o=new F(o)", "0 L36");
+        is("function F(n){try{if(n)new F(0)}catch(e){z=this}}new F(1)", "L35 L38");
         is("function F(n){if(n)new F(0);z=this}new F(1)", "L35 L36 L37 L38");
         ScriptTypes t = solved("function F(){z=this}for(k in 1)new F");
         Kit.check("THIS of a call is the latest one", Kit.slot(t, find(t, "THIS", 0), -1), "L35");
@@ -955,6 +956,14 @@ public final class AbstractBoundsTest {
         ScriptTypes s = solved("function f(){return {}}[f(),f()]");
         put = find(s, "PUT", 1);
         Kit.check("the array, AGED", Kit.slot(s, put, 0) + "/" + Kit.slot(s, put, 3), "L35 L36/L37");
+        ScriptTypes edge = solved("function d(){}".repeat(4) + "function f(){}[];[];[f()]");
+        Kit.check("labels 63 and 64, AGED", Kit.slot(edge, find(edge, "PUT", 0), 0), "L63 L64");
+        ScriptTypes last = solved("function d(){}".repeat(5) + "function f(){}print(f.prototype,f())");
+        Kit.check("a prototype object of 63 and 64, AGED", Kit.slot(last, find(last, "CALL2", 0), 2), "L63 L64");
+        ScriptTypes before = solved("function d(){}".repeat(4) + "function f(){}[];[f()]");
+        Kit.check("labels 61 and 62, AGED", Kit.slot(before, find(before, "PUT", 0), 0), "L61 L62");
+        ScriptTypes behind = solved("function d(){}".repeat(4) + "function f(){}[];[];[];[f()]");
+        Kit.check("labels 65 and 66, AGED", Kit.slot(behind, find(behind, "PUT", 0), 0), "L65 L66");
         ScriptTypes t = solved("function g(){}function F(){g();return this}z=new F");
         int self = find(t, "THIS", 0);
         Kit.check("THIS and SCOPE, AGED", Kit.slot(t, self, -1) + " " + t.link(self, -1, 3), "L41 L42 " + ((1L << 35) + (1L << 36)));
