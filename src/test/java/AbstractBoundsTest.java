@@ -262,6 +262,10 @@ public final class AbstractBoundsTest {
         Kit.sentence("To JOIN states: all parts (a stack's LIST is an EMPTY set).");
         is("'p';c=~print;o={};o.q=c;while(c){o.p=1;o.q=5}z=o.p", "undefined 1");
         is("c=~print;o={};o.p=c;while(c){o.q=1;o.p=5}z=o.q", "undefined 1");
+        is("c=~print;a={};b={};o={};o.x=a;while(c)o.x=b;z=o.x", "L29 L31");
+        is("c=~print;a={};b={};o={};o.x=a;o.y=b;while(c)o.x=b;z=o.x", "L29 L31");
+        is("function f(){return this}f.call(1);f.call(1);f.call(1);z=f.call('s')", "1 's'");
+        is("function f(){return this}o={};f.call(o);f.call(o);f.call(o);z=f.call(print)", "L9 L35");
         is("c=~print;o=p=0;while(c){o={};p=0}z=o", "0 L29");
         is("c=~print;o={};while(c){q=1;o.p=5}z=typeof q", "STR");
         is("function F(){}function mk(){o=new F}c=~print;a={};b={p:1};F.prototype=a;mk();mk();F.prototype=a;if(c){F.prototype=b;mk();for(;;);}z=o.p", "undefined 1");
@@ -586,6 +590,7 @@ public final class AbstractBoundsTest {
         is("function f(a,n){if(n)f(print,0);z=a;a=null}f(1,1)", "null 1 L9");
         is("function f(a,n){if(n)f([],0);z=a;a=print}f({},1)", "L9 L35 L37 L38");
         is("function f(a,n){if(n){f([],0);z=a;return}a=print}f({},1)", "L9 L35 L38");
+        is("function f(a,n){if(n){f([],0);z=a;return}a={}}f({},1)", "L35 L38 L39");
         Kit.sentence("variables as told: a parameter that has no argument, and others, are undefined");
         is("function f(a,b){z=b}f(1)", "undefined");
         is("function f(a,b){z=b}f(1,2)", "2");
@@ -938,6 +943,8 @@ public final class AbstractBoundsTest {
         Kit.check("LINKs of the scope", r.link(load, 35, 3), 1L << 30);
         ScriptTypes at1 = solved("function f(a){return function(){return a}}g=f(1);h=f(2);" + any("v", "g", "h") + "v()");
         Kit.check("LINKs of both at once", at1.link(find(at1, "LOAD1:a", 0), 35, 3), (1L << 29) + (1L << 30));
+        ScriptTypes far = solved("function d(){}".repeat(6) + "function f(a){return function(){return a}}g=f(1);h=f(2);" + any("v", "g", "h") + "v()");
+        Kit.check("LINKs of both at once, behind 64", far.link(find(far, "LOAD1:a", 0), 71, 4) + " " + far.link(find(far, "LOAD1:a", 0), 71, 3), 6 + " 0");
         ScriptTypes both = solved("function f(a){return function(){return a}}g=f(1);h=f(2);g();h()");
         load = find(both, "LOAD1:a", 0);
         Kit.check("LINKs of both", both.link(load, 35, 3), (1L << 29) + (1L << 30));
