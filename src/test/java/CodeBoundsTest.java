@@ -262,6 +262,7 @@ public final class CodeBoundsTest {
         code("while(a)while(b){break}", "GLOBAL:a UNLESS7 GLOBAL:b UNLESS6 JUMP6 JUMP2 JUMP0");
         code("while(a){while(b);continue}", "GLOBAL:a UNLESS7 GLOBAL:b UNLESS5 JUMP2 JUMP0 JUMP0");
         code("while(a)switch(b){case 1:continue;default:break}", "GLOBAL:a UNLESS14 GLOBAL:b COPY 1 BINARY13 UNLESS9 DROP JUMP11 DROP JUMP12 JUMP0 JUMP13 JUMP0");
+        code("a;do{continue;b;break}while(c)", "GLOBAL:a DROP JUMP6 GLOBAL:b DROP JUMP9 GLOBAL:c UNLESS9 JUMP2");
         code("if(a);else if(b);else;", "GLOBAL:a UNLESS3 JUMP6 GLOBAL:b UNLESS6 JUMP6");
     }
 
@@ -303,6 +304,8 @@ public final class CodeBoundsTest {
         code("try{}finally{while(1)break}", "TRY7 LEAVE 1 UNLESS6 JUMP6 JUMP2 JUMP12 1 UNLESS11 JUMP11 JUMP7 THROW");
         code("for(a in b)try{try{}finally{break}}finally{1}",
             "GLOBAL:b NAMESOF NEXT29 SETGLOBAL:a DROP TRY25 TRY14 LEAVE LEAVE 1 DROP DROP JUMP29 JUMP21 DROP LEAVE 1 DROP DROP JUMP29 THROW LEAVE 1 DROP JUMP28 1 DROP THROW JUMP2");
+        code("while(1)try{break}finally{continue}", "1 UNLESS13 TRY9 LEAVE JUMP0 JUMP13 LEAVE JUMP0 JUMP12 DROP JUMP0 THROW JUMP0");
+        code("for(a in b)try{break}finally{break}", "GLOBAL:b NAMESOF NEXT20 SETGLOBAL:a DROP TRY15 LEAVE DROP JUMP20 DROP JUMP20 LEAVE DROP JUMP20 JUMP19 DROP DROP JUMP20 THROW JUMP2");
         Kit.sentence("return's value, in an F that it goes through");
         function("while(1)try{return 2}finally{break}", "1 UNLESS20 TRY16 2 LEAVE DROP JUMP20 RETURN LEAVE JUMP20 JUMP19 DROP JUMP20 THROW JUMP5 undefined RETURN");
         function("while(1)try{return 2}finally{continue}", "1 UNLESS20 TRY16 2 LEAVE DROP JUMP5 RETURN LEAVE JUMP5 JUMP19 DROP JUMP5 THROW JUMP5 undefined RETURN");
